@@ -406,11 +406,11 @@ public final class BottlePyramid {
 
     private int doOrders() {
         int done = 0;
-        char letter = ';';
+        int letter = ';';
         int first = 0;
         int second = 0;
         for (int i = 0; i <= typedLength; i++) {
-            char code = i < typedLength ? typed[i] : ';';
+            int code = i < typedLength ? typed[i] : ';';
             if (code == ';') {
                 if (!doOrder(letter, first, second)) {
                     return done;
@@ -427,7 +427,7 @@ public final class BottlePyramid {
         return done;
     }
 
-    private boolean doOrder(char letter, int row, int number) {
+    private boolean doOrder(int letter, int row, int number) {
         switch (letter) {
             case 't':
                 if (reasonAgainst(row, number) != 0) {
@@ -584,10 +584,11 @@ public final class BottlePyramid {
         }
 
         private static int settled(int mask) {
-            int left = bitsOf(mask, 0);
+            int left = mask & 31;
             int below = left;
             for (int row = 1; row < ROWS; row++) {
-                below = bitsOf(mask, row) & below & (below >> 1);
+                // What rests can lie on the row below alone, so the bits of higher rows drop out here.
+                below = (mask >> ROW_START[row]) & below & (below >> 1);
                 left |= below << ROW_START[row];
             }
             return left;
@@ -605,26 +606,24 @@ public final class BottlePyramid {
             return turned;
         }
 
-        // Before anything falls; so many bottles must be in the row.
+        // Before anything falls; NONE if there are not so many bottles in the row.
         private static int robbed(int mask, int thief, int row, int bottles) {
             int left = mask;
             int toTake = bottles;
             for (int i = 0; i < ROWS - row && toTake > 0; i++) {
                 int place = thief == 0 ? i : ROWS - 1 - row - i;
-                if (hasBottle(left, row, place)) {
-                    left &= ~bit(row, place);
+                int bottle = 1 << (ROW_START[row] + place);
+                if ((left & bottle) != 0) {
+                    left &= ~bottle;
                     toTake--;
                 }
             }
-            return left;
+            return toTake == 0 ? left : NONE;
         }
 
         private static int fallenBy(int mask, int thief, int row, int bottles) {
-            if (Integer.bitCount(bitsOf(mask, row)) < bottles) {
-                return NONE;
-            }
             int left = robbed(mask, thief, row, bottles);
-            return Integer.bitCount(left) - Integer.bitCount(settled(left));
+            return left == NONE ? NONE : Integer.bitCount(left) - Integer.bitCount(settled(left));
         }
 
         // All pyramids in which every bottle rests, by rising masks.
@@ -663,7 +662,7 @@ public final class BottlePyramid {
         private static final int BOTTLES = 4;
         private static final int PLACE_IN_ROW = 10;
 
-        private static int next(int state, char code) {
+        private static int next(int state, int code) {
             switch (state) {
                 case START: return afterLetter(code);
                 case END: return code == ';' ? START : ERROR;
@@ -679,7 +678,7 @@ public final class BottlePyramid {
             return isDigit(code, 0, ROWS - 1 - row) ? END : ERROR;
         }
 
-        private static int afterLetter(char code) {
+        private static int afterLetter(int code) {
             switch (code) {
                 case 't': return ROW_OF_THEFT;
                 case 'k': return ROW_OF_PLACE;
@@ -690,7 +689,7 @@ public final class BottlePyramid {
             }
         }
 
-        private static boolean isDigit(char code, int lowest, int highest) {
+        private static boolean isDigit(int code, int lowest, int highest) {
             return code >= '0' + lowest && code <= '0' + highest;
         }
     }
@@ -744,11 +743,12 @@ public final class BottlePyramid {
 
         // Where it stands what comes of a theft; NONE if the theft is not possible.
         private int slotBehind(int thief, int mask, int row, int bottles) {
-            int fallen = Pile.fallenBy(mask, thief, row, bottles);
-            if (fallen == NONE || (barring && fallen > 0)) {
+            int unsettled = Pile.robbed(mask, thief, row, bottles);
+            if (unsettled == NONE) {
                 return NONE;
             }
-            return slotOf(1 - thief, Pile.settled(Pile.robbed(mask, thief, row, bottles)));
+            int left = Pile.settled(unsettled);
+            return barring && left != unsettled ? NONE : slotOf(1 - thief, left);
         }
 
         private int slotOf(int thief, int mask) {

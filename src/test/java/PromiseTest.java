@@ -169,6 +169,8 @@ public final class PromiseTest {
         due("what is there", x.count(0), 0b0_00_010_0111_01111);
         due("broken stays", x.count(5), 9);
         due("the turn stays", x.count(2), 0);
+        due("one with nothing above", after("k11").put(1, 1), 10);
+        due("the top", after("k40").put(4, 0), 15);
         refused("a bottle on another", x, STATE, y -> y.put(0, 0));
         refused("without its right rest", x, STATE, y -> y.put(1, 3));
         refused("without its left rest", after("k00"), STATE, y -> y.put(1, 0));
@@ -266,8 +268,8 @@ public final class PromiseTest {
         for (String text : right) {
             due("firstError of " + text, typed(text).firstError(), text.length());
         }
-        String[] wrongAtEnd = {";", "T", "1", "x", "!", "~", "t5", "t;", "t00", "t04", "t0;", "tt", "k5", "k41", "k32", "k23",
-            "k14", "k05", "k0;", "p41", "p14", "p05", "m;;", "mr", "m1", "rr", "t011", "k000", "t01;;", "k00t"};
+        String[] wrongAtEnd = {";", "T", "1", "x", "!", "~", "t5", "t;", "t00", "t04", "t0;", "tt", "k5", "k41", "k32",
+            "k23", "k14", "k05", "k0;", "p41", "p14", "p05", "m;;", "mr", "m1", "rr", "t011", "k000", "t01;;", "k00t"};
         for (String text : wrongAtEnd) {
             due("firstError of " + text, typed(text).firstError(), text.length() - 1);
             due("firstError of more than " + text, typed(text + "m;").firstError(), text.length() - 1);
@@ -385,6 +387,13 @@ public final class PromiseTest {
                 due("row(" + row + ", " + what + ")", x.row(row, what), numbers[row][what]);
             }
         }
+        BottlePyramid full = new BottlePyramid();
+        for (int row = 0; row < 5; row++) {
+            due("the lowest place of the row " + row, full.row(row, 1), 0);
+            due("the highest place of the row " + row, full.row(row, 2), 4 - row);
+        }
+        due("taken from the row 0 in all", after("t01;t01;m;t01").row(0, 4), 3);
+        due("broken of the row 1 in all", after("t01;t01;m;t01").row(1, 5), 3);
         BottlePyramid wide = withSettings(3, 0, 0);
         due("3 of the row 2", wide.row(2, 3), 3);
         due("2 of the row 3", wide.row(3, 3), 2);
@@ -422,6 +431,11 @@ public final class PromiseTest {
         due("who has lost by the last theft", x.count(8), 0);
         x.turn(1);
         due("the other turn", x.count(8), 1);
+        x.set(2, 0);
+        due("the other turn after the last theft", x.count(8), 0);
+        due("taken by the thief 0", after("t41;t31;t31;t21").count(3), 2);
+        due("taken by the thief 1", after("t41;t31;t31;t21").count(4), 2);
+        due("taken by the thief 1 alone", after("m;t41;m;m;t31").count(4), 1);
         due("all thefts of up to 3", withSettings(3, 0, 0).count(7), 3 + 3 + 3 + 2 + 1);
         due("barred but one", withSettings(3, 1, 0).count(7), 1);
         refused("count(-1)", x, ARGUMENT, y -> y.count(-1));
@@ -530,6 +544,9 @@ public final class PromiseTest {
         due("on the side of the upper one", sides.best(), 1);
         sides.turn(1);
         due("on the other side", sides.best(), -1);
+        sides.mirror();
+        sides.turn(1);
+        due("of the thief 1 on the side of the upper one", sides.best(), 1);
         due("the fewest bottles of the lowest row", withSettings(2, 0, 0).best(), 32);
         due("of three bottles of a row", withSettings(3, 0, 0).best(), 23);
         BottlePyramid empty = after("k00;k01;k02;k03;k04");
