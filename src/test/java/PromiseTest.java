@@ -1,15 +1,6 @@
-import java.util.function.Consumer;
-
 /** One method a promise of the document: ordinary calls, the edges that it names, wrong calls. */
-public final class PromiseTest {
-    private static final Class<?> INDEX = IndexOutOfBoundsException.class;
-    private static final Class<?> ARGUMENT = IllegalArgumentException.class;
-    private static final Class<?> STATE = IllegalStateException.class;
-    private static final int LOW = Integer.MIN_VALUE;
-    private static final int HIGH = Integer.MAX_VALUE;
-
+public final class PromiseTest extends Check {
     private static int promise = 0;
-    private static int wrong = 0;
 
     public static void main(String[] args) {
         Runnable[] promises = {
@@ -21,68 +12,10 @@ public final class PromiseTest {
             PromiseTest::pyramids, PromiseTest::brokenShare, PromiseTest::wonShare, PromiseTest::digest};
         for (Runnable one : promises) {
             promise++;
+            at("promise " + promise);
             one.run();
         }
-        System.out.println(promise + " promises were tested, " + wrong + " answers were wrong");
-        if (wrong > 0) {
-            System.exit(1);
-        }
-    }
-
-    private static void due(String what, Object got, Object want) {
-        if (!got.equals(want)) {
-            wrong++;
-            System.out.println("promise " + promise + ": " + what + " is " + got + ", due is " + want);
-        }
-    }
-
-    /** The call must throw just this and change nothing. */
-    private static void refused(String what, BottlePyramid x, Class<?> due, Consumer<BottlePyramid> call) {
-        long before = x.digest();
-        Object got = "nothing";
-        try {
-            call.accept(x);
-        } catch (RuntimeException e) {
-            got = e.getClass();
-        }
-        due(what + " throws", got, due);
-        due("the digest after a refused " + what, x.digest(), before);
-    }
-
-    private static BottlePyramid typed(BottlePyramid x, String text) {
-        text.chars().forEach(x::append);
-        return x;
-    }
-
-    private static BottlePyramid typed(String text) {
-        return typed(new BottlePyramid(), text);
-    }
-
-    /** A pyramid after these orders, with nothing saved that a test would count. */
-    private static BottlePyramid after(String orders) {
-        BottlePyramid x = typed(orders);
-        x.obey();
-        return x;
-    }
-
-    private static BottlePyramid withSettings(int most, int barred, int overWins) {
-        BottlePyramid x = new BottlePyramid();
-        x.set(0, most);
-        x.set(1, barred);
-        x.set(2, overWins);
-        return x;
-    }
-
-    /** Undoing the one call just made must lead back to the digest from before it. */
-    private static void undoes(String what, BottlePyramid x, Consumer<BottlePyramid> call) {
-        long before = x.digest();
-        int savedBefore = x.count(9);
-        call.accept(x);
-        due("saved states after " + what, x.count(9), Math.min(6, savedBefore + 1));
-        x.undo();
-        if (savedBefore < 6) {
-            due("the digest after undoing " + what, x.digest(), before);
-        }
+        end(promise + " promises");
     }
 
     private static void newObject() {
@@ -622,31 +555,5 @@ public final class PromiseTest {
         due("under other settings", x.digest(), digestOf(x, 1, "m;t01~!"));
         due("all broken", after("k02").digest(), digestOf(after("k02"), 0, ""));
         due("one broken of very few", after("t41;t31;t31;k00").digest(), digestOf(after("t41;t31;t31;k00"), 0, ""));
-    }
-
-    private static long digestOf(BottlePyramid x, int snapshots, String buffer) {
-        long[] hash = {3323};
-        java.util.function.LongConsumer add = v -> hash[0] = 31 * hash[0] + v;
-        for (int i = 0; i <= 9; i++) add.accept(x.count(i));
-        for (int i = 0; i <= 2; i++) add.accept(x.setting(i));
-        for (int row = 0; row <= 4; row++) {
-            for (int i = 0; i <= 5; i++) add.accept(x.row(row, i));
-            for (int i = 1; i <= 3; i++) {
-                add.accept(x.why(row, i));
-                add.accept(x.falls(row, i));
-            }
-        }
-        add.accept(x.wins(0));
-        add.accept(x.wins(1));
-        add.accept(x.best());
-        add.accept(x.length(0));
-        add.accept(x.length(1));
-        for (int i = 0; i <= 3; i++) add.accept(x.pyramids(i));
-        add.accept(Double.doubleToLongBits(x.brokenShare()));
-        add.accept(Float.floatToIntBits(x.wonShare()));
-        add.accept(snapshots);
-        add.accept(buffer.length());
-        buffer.chars().forEach(add::accept);
-        return hash[0];
     }
 }
