@@ -5,6 +5,7 @@ import java.lang.reflect.Method;
 import java.lang.reflect.Modifier;
 import java.nio.file.Files;
 import java.nio.file.Path;
+import java.util.ArrayList;
 import java.util.Arrays;
 import java.util.List;
 import java.util.Set;
@@ -55,8 +56,10 @@ public final class FaceTest {
             .map(Field::toString).toList(), List.of("public static final int BottlePyramid.NONE"));
         due("NONE", BottlePyramid.NONE, -1);
         privateNamesDiffer(face);
+        keepsToTheSizes(face);
         String source = Files.readString(Path.of("src/main/java/BottlePyramid.java"));
         RULED_OUT.forEach(text -> due("that '" + text + "' is in the source", source.contains(text), false));
+        due("that a sign above 127 is in the source", source.chars().anyMatch(sign -> sign > 127), false);
         System.out.println(wrong == 0 ? "the face is as due" : wrong + " things of the face are not as due");
         if (wrong > 0) {
             System.exit(1);
@@ -98,6 +101,26 @@ public final class FaceTest {
         for (Method method : face.getDeclaredMethods()) {
             if (isPrivate(method.getModifiers())) {
                 due("that " + method + " bears a public name", open.contains(method.getName()), false);
+            }
+        }
+    }
+
+    /** The limits of rule 11, and rule 5: static fields are final. */
+    private static void keepsToTheSizes(Class<?> face) {
+        List<Class<?>> classes = new ArrayList<>(List.of(face.getDeclaredClasses()));
+        classes.add(face);
+        due("that there are more than 12 classes", classes.size() > 12, false);
+        for (Class<?> each : classes) {
+            long fields = Arrays.stream(each.getDeclaredFields())
+                .filter(field -> !Modifier.isStatic(field.getModifiers())).count();
+            due("that " + each + " has more than 20 fields", fields > 20, false);
+            for (Field field : each.getDeclaredFields()) {
+                int modifiers = field.getModifiers();
+                due("that " + field + " is static and changes",
+                    Modifier.isStatic(modifiers) && !Modifier.isFinal(modifiers), false);
+            }
+            for (Method method : each.getDeclaredMethods()) {
+                due("that " + method + " takes more than 7", method.getParameterCount() > 7, false);
             }
         }
     }
